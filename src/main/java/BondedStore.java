@@ -600,7 +600,7 @@ public final class BondedStore {
     /** Keeps what history.prepare() laid aside; errors and NONE alone are negative answers of acts. */
     private int finishAct(int answer) {
         if (answer >= 0) {
-            history.record();
+            history.addPrepared();
         }
         return answer;
     }
@@ -994,7 +994,7 @@ public final class BondedStore {
             rows[(first + size) % ROWS].copyFrom(now);
         }
 
-        void record() {
+        void addPrepared() {
             if (size < MOST) {
                 size++;
             } else {
