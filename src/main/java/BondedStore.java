@@ -561,19 +561,17 @@ public final class BondedStore {
     }
 
     private int carryOutOrders() {
-        orders.goToStart();
         int done = 0;
-        for (int i = 0; i <= orders.length; i++) {
-            if (orders.atEnd() || !orders.readOrder() || carryOutOrder(orders.numbers) < 0) {
-                return done;
-            }
+        orders.goToStart();
+        while (done < Orders.MOST_CHARACTERS && !orders.atEnd() && orders.readOrder() && carryOutOrder() >= 0) {
             done++;
             orders.skipSeparator();
         }
         return done;
     }
 
-    private int carryOutOrder(int[] numbers) {
+    private int carryOutOrder() {
+        int[] numbers = orders.numbers;
         switch (orders.word) {
             case Orders.ENTER: return enterLot(numbers[0], numbers[1], numbers[2], numbers[3]);
             case Orders.RELEASE: return releaseUnits(numbers[0], numbers[1]);

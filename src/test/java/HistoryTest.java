@@ -7,6 +7,7 @@ public final class HistoryTest {
         promise19Undo();
         promise19WhatIsRecorded();
         promise19WhatComesBack();
+        promise19RowsOfOtherLots();
         promise20Keep();
         promise21Restore();
         Due.end();
@@ -99,6 +100,41 @@ public final class HistoryTest {
         Due.is("the reason stays", store.count(11), 4);
         Due.is("account(6)", store.account(6), 1000);
         Due.is("waiting exports", store.count(4), 0);
+    }
+
+    /** A row that another lot or export got in between is whole again in each state. */
+    private static void promise19RowsOfOtherLots() {
+        BondedStore store = Due.storeOf(2, 100000000);
+        Due.is("keep the empty one", store.keep(0), 0);
+        Due.is("enter", store.enter(1, 4, 70, 3000), 0);
+        Due.is("enter", store.enter(1, 4, 70, 3000), 1);
+        Due.is("export", store.export(1, 9), 0);
+        Due.is("keep", store.keep(1), 2);
+        Due.is("restore the empty one", store.restore(0), 0);
+        Due.is("setTerms", store.setTerms(50, 20), 100);
+        Due.is("pass", store.pass(3), 0);
+        Due.is("enter", store.enter(0, 2, 7, 1000), 0);
+        Due.is("export", store.export(0, 2), 0);
+        int[] other = {0, 2, 7, 1000, 3, 53, 100, 5, 100, 0, 0, 0, 2};
+        int[] otherExport = {0, 2, 28, 23, 0};
+        checkRows(store, 0, other, otherExport);
+        Due.is("restore", store.restore(1), 2);
+        int[] first = {1, 4, 70, 3000, 0, 100, 300, 61, 300, 0, 0, 0, 9};
+        int[] firstExport = {1, 9, 38, 30, 0};
+        checkRows(store, 1, first, firstExport);
+        int[] beside = {1, 4, 70, 3000, 0, 100, 300, 70, 300, 0, 0, 0, 0};
+        checkRows(store, 0, beside, firstExport);
+        Due.is("undo", store.undo(), 5);
+        checkRows(store, 0, other, otherExport);
+    }
+
+    private static void checkRows(BondedStore store, int lot, int[] ofLot, int[] ofExport) {
+        for (int what = 0; what < ofLot.length; what++) {
+            Due.is("lot(" + lot + ", " + what + ")", store.lot(lot, what), ofLot[what]);
+        }
+        for (int what = 0; what < ofExport.length; what++) {
+            Due.is("exported(0, " + what + ")", store.exported(0, what), ofExport[what]);
+        }
     }
 
     private static void promise20Keep() {

@@ -107,7 +107,8 @@ final class LiteralStore {
     private int reason;
 
     private static long quotient(long a, long b, long divisor) {
-        return BigInteger.valueOf(a).multiply(BigInteger.valueOf(b)).divide(BigInteger.valueOf(divisor)).longValueExact();
+        BigInteger product = BigInteger.valueOf(a).multiply(BigInteger.valueOf(b));
+        return product.divide(BigInteger.valueOf(divisor)).longValueExact();
     }
 
     private boolean hasOwner(int owner) {
@@ -552,7 +553,8 @@ final class LiteralStore {
         }
         Owner o = s.owners.get(owner);
         long stored = s.lots.stream().filter(l -> l.owner == owner && l.stored > 0).count();
-        long[] all = {o.cash, o.guarantee, o.debt, use(owner), covered(use(owner), o.guarantee) ? 1 : 0, stored, o.called};
+        long use = use(owner);
+        long[] all = {o.cash, o.guarantee, o.debt, use, covered(use, o.guarantee) ? 1 : 0, stored, o.called};
         return in(what, 0, all.length - 1) ? all[what] : Due.BAD_VALUE;
     }
 

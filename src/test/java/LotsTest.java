@@ -66,6 +66,19 @@ public final class LotsTest {
         Due.refused("31st", store, store.enter(1, 0, 1, 10000000), 5);
         Due.is("lots then", store.count(2), 30);
 
+        BondedStore cent = Due.storeOf(2, 20);
+        Due.is("enter", cent.enter(0, 0, 1, 219), 0);
+        Due.is("enter", cent.enter(1, 0, 1, 10), 1);
+        Due.is("pass(100)", cent.pass(100), 0);
+        Due.is("pass(1)", cent.pass(1), 22);
+        Due.refused("a debt of one cent", cent, cent.enter(0, 0, 1, 0), 1);
+        Due.is("enter", cent.enter(1, 0, 1, 10), 2);
+        Due.refused("release", cent, cent.release(2, 1), 3);
+        Due.refused("a debt of one cent", cent, cent.give(2, 0), 1);
+        Due.is("deposit(0, 1)", cent.deposit(0, 1), 0);
+        Due.is("give without a debt", cent.give(2, 0), 1);
+        Due.is("lots with one unit", cent.owner(0, 5), 1);
+
         BondedStore bare = Due.storeOf(1, 100);
         Due.is("enter", bare.enter(0, 0, 1, 1000), 0);
         Due.is("setRules", bare.setRules(100, 20, 10), 20);

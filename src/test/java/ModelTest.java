@@ -91,7 +91,8 @@ public final class ModelTest {
             int kind = number(0, 5);
             int quantity = style == 0 ? number(1, 1000000) : number(1, 60);
             int value = value();
-            Due.is(at + "enter", store.enter(owner, kind, quantity, value), model.order("enter", owner, kind, quantity, value));
+            int got = store.enter(owner, kind, quantity, value);
+            Due.is(at + "enter", got, model.order("enter", owner, kind, quantity, value));
             return;
         }
         int lot = anyLot();
@@ -213,7 +214,8 @@ public final class ModelTest {
                 Due.is(at + "owner " + owner + " " + what, store.owner(owner, what), model.owner(owner, what));
             }
             for (int export = -1; export <= store.count(3) && what < 6; export++) {
-                Due.is(at + "exported " + export + " " + what, store.exported(export, what), model.exported(export, what));
+                int got = store.exported(export, what);
+                Due.is(at + "exported " + export + " " + what, got, model.exported(export, what));
             }
         }
         int lot = below(store.count(2) + 1) - (below(20) == 0 ? 1 : 0);
@@ -232,7 +234,8 @@ public final class ModelTest {
         Due.is(at + "calledIn " + days, store.calledIn(days), model.calledIn(days));
         for (int owner = -1; owner <= store.count(1); owner++) {
             int kind = number(0, 5);
-            Due.is(at + "greatestValue " + owner + " " + kind, store.greatestValue(owner, kind), model.greatestValue(owner, kind));
+            int got = store.greatestValue(owner, kind);
+            Due.is(at + "greatestValue " + owner + " " + kind, got, model.greatestValue(owner, kind));
         }
     }
 }

@@ -106,7 +106,7 @@ public final class OrdersTest {
             full.append("days 1;");
         }
         fault(full.append("day").toString(), 77);
-        fault(full.replace(0, full.length(), "days 1;").append("prove 1;".repeat(8)).append("days 100;").toString(), 80);
+        fault("days 1;" + "prove 1;".repeat(8) + "days 100;", 80);
     }
 
     private static void limit(String before, String least, String most, String... bad) {
@@ -142,7 +142,8 @@ public final class OrdersTest {
     private static void promise18AllOrders() {
         BondedStore store = Due.storeOf(2, 100000000);
         store.deposit(0, 10000);
-        Due.is("first orders", Due.run(store, "enter 0 1 100 5000;release 0 10;sample 0 3;export 0 20;export 00 05"), 5);
+        String first = "enter 0 1 100 5000;release 0 10;sample 0 3;export 0 20;export 00 05";
+        Due.is("first orders", Due.run(store, first), 5);
         Due.is("kind", store.lot(0, 1), 1);
         Due.is("value", store.lot(0, 3), 5000);
         Due.is("paid", store.lot(0, 9), 55);
@@ -156,6 +157,8 @@ public final class OrdersTest {
         Due.is("called", store.owner(1, 6), 400);
         Due.is("again without clearing", store.runOrders(), 0);
         Due.is("reason", store.count(11), 6);
+        Due.is("orders with one number", Due.run(store, "enter 0 0 9 9;export 1 5;prove 2"), 3);
+        Due.is("the third is proved", store.exported(2, 4), 1);
         Due.is("shortest orders", Due.run(store,
                 "days 1;days 1;days 1;days 1;days 1;days 1;days 1;days 1;days 1;days 1;days 1"), 11);
         Due.is("day", store.count(0), 142);

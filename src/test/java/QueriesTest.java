@@ -15,6 +15,7 @@ public final class QueriesTest {
         promise29AgreesWithEnter();
         promise30Account();
         promise31Count();
+        allRowsInUse();
         Due.end();
     }
 
@@ -51,8 +52,10 @@ public final class QueriesTest {
         Due.is("documentAt(0, -1)", store.documentAt(0, -1), Due.BAD_VALUE);
         Due.is("documentAt(0, MIN)", store.documentAt(0, Integer.MIN_VALUE), Due.BAD_VALUE);
         Due.is("documentAt(0, MAX)", store.documentAt(0, Integer.MAX_VALUE), Due.NONE);
+        Due.is("documentAt without documentLength", store.documentAt(0, 0), 'L');
         document(store, 0, "L0/1:150+0");
         Due.is("export", store.export(0, 20), 0);
+        Due.is("documentAt after a change", store.documentAt(0, 6), '3');
         Due.is("export", store.export(0, 3), 1);
         document(store, 0, "L0/1:127+23");
         Due.is("give", store.give(0, 0), 1);
@@ -142,6 +145,7 @@ public final class QueriesTest {
         Due.is("calledIn(0)", store.calledIn(0), Due.BAD_VALUE);
         Due.is("calledIn(-1)", store.calledIn(-1), Due.BAD_VALUE);
         Due.is("calledIn(101)", store.calledIn(101), Due.BAD_VALUE);
+        Due.is("calledIn(1)", store.calledIn(1), 0);
         Due.is("nothing", store.calledIn(100), 0);
         Due.is("setTerms", store.setTerms(50, 20), 100);
         Due.is("enter", store.enter(0, 0, 7, 1000), 0);
@@ -173,6 +177,7 @@ public final class QueriesTest {
         Due.is("at 1000", store.greatestValue(0, 1), 104);
         Due.is("setRate", store.setRate(2, 0), 100);
         Due.is("at 0", store.greatestValue(0, 2), 10000000);
+        Due.is("kind 5", store.greatestValue(0, 5), 1049);
         Due.is("setRate", store.setRate(3, 1), 100);
         Due.is("at 1", store.greatestValue(0, 3), 104999);
         Due.is("enter", store.enter(0, 0, 10, 1049), 0);
@@ -242,6 +247,42 @@ public final class QueriesTest {
         for (int account = 0; account < then.length; account++) {
             Due.is("then account(" + account + ")", store.account(account), then[account]);
         }
+    }
+
+    /** Every question and act that looks at all rows, when there is no row beyond them. */
+    private static void allRowsInUse() {
+        BondedStore store = Due.storeOf(5, PLENTY);
+        for (int i = 0; i < 30; i++) {
+            Due.is("enter", store.enter(i % 5, i % 6, 10, 1000), i);
+        }
+        for (int i = 0; i < 30; i++) {
+            Due.is("export", store.export(29 - i, 9), i);
+        }
+        Due.is("lots in the store", store.owner(4, 5), 6);
+        Due.is("use", store.owner(4, 3), 600);
+        Due.is("count(4)", store.count(4), 30);
+        Due.is("account(0)", store.account(0), 3000);
+        Due.is("account(1)", store.account(1), 3000);
+        Due.is("nextDeadline", store.nextDeadline(), 100);
+        document(store, 29, "L29/4:1+9");
+        Due.is("calledIn(30)", store.calledIn(30), 0);
+        Due.is("calledIn(31)", store.calledIn(31), 2700);
+        Due.is("greatestValue", store.greatestValue(4, 5), 10000000);
+        Due.is("prove", store.prove(0), 90);
+        Due.is("nextDeadline", store.nextDeadline(), 101);
+        Due.is("pass", store.pass(31), 2610);
+        Due.is("nextDeadline", store.nextDeadline(), 0);
+        Due.is("calledIn(100)", store.calledIn(100), 300);
+        Due.is("pass", store.pass(70), 300);
+        Due.is("account(4)", store.account(4), 2910);
+        Due.is("seized", store.count(5), 30);
+        Due.is("nextDeadline", store.nextDeadline(), Due.NONE);
+        Due.is("undo", store.undo(), 5);
+        Due.is("lots in the store", store.owner(4, 5), 6);
+        Due.is("keep", store.keep(0), 30);
+        Due.is("restore", store.restore(0), 30);
+        Due.is("release nothing", store.release(29, 1), Due.REFUSED);
+        Due.is("reason", store.count(11), 3);
     }
 
     private static void promise31Count() {
