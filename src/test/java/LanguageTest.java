@@ -35,6 +35,7 @@ public final class LanguageTest {
         String code = withoutComments(Files.readString(SOURCE));
         checkWords(code);
         checkMethodLengths(code);
+        checkWhatIsMade(code);
         Due.end();
     }
 
@@ -136,6 +137,17 @@ public final class LanguageTest {
                 Due.isTrue("short: " + start, i - begun < 60);
                 start = null;
             }
+        }
+    }
+
+    /** All rows are made in constructors, so that many calls need no more room than one. */
+    private static void checkWhatIsMade(String code) {
+        boolean constructing = false;
+        for (String line : code.split("\n")) {
+            if (line.matches(" {4,8}\\S.*\\) \\{") && !line.matches("\\s*(if|for|while|switch)\\b.*")) {
+                constructing = line.matches("\\s*(public )?[A-Z]\\w*\\(.*");
+            }
+            Due.isTrue("made in a constructor: " + line, constructing || !line.matches(".*\\bnew\\b.*"));
         }
     }
 }

@@ -1,20 +1,26 @@
+import java.util.function.LongSupplier;
+
 /**
- * All promises together: long runs of calls by a fixed row of numbers, each answer and then all that
- * can be asked compared with LiteralStore.
+ * All promises together: runs of 512 calls by a fixed row of numbers, acts and questions mixed, each
+ * answer compared with that of LiteralStore.
  */
 public final class ModelTest {
-    private static final int RUNS = 400;
-    private static final int CALLS = 300;
+    private static final int RUNS = 2500;
+    /** What an object answers to later calls is free. */
+    private static final int CALLS = 512;
     private static final int[] EXTREMES = {-1, 0, Integer.MIN_VALUE, Integer.MAX_VALUE, 1000001, 10000001, 100000001};
     private static final String[] WORDS = {"release", "sample", "export", "destroy"};
     private static final String SIGNS = "0159 ;;  enterdays-x";
 
     private final BondedStore store = new BondedStore();
     private final LiteralStore model = new LiteralStore();
+    private final int run;
     private final int style;
     private long seed;
+    private int calls;
 
     private ModelTest(int run) {
+        this.run = run;
         style = run % 4;
         seed = 7919L * run + 1;
     }
@@ -22,12 +28,20 @@ public final class ModelTest {
     public static void main(String[] args) {
         for (int run = 0; run < RUNS; run++) {
             ModelTest test = new ModelTest(run);
-            for (int call = 0; call < CALLS; call++) {
-                test.call("run " + run + ", call " + call + ", ");
-                test.compareAll("run " + run + ", call " + call + ", then ");
+            while (test.calls < CALLS) {
+                test.call();
             }
         }
         Due.end();
+    }
+
+    private void same(String call, Call got, LongSupplier want) {
+        if (calls < CALLS) {
+            calls++;
+            long answer = got.on(store);
+            long due = want.getAsLong();
+            Due.is(answer == due ? call : "run " + run + ", call " + calls + ", " + call, answer, due);
+        }
     }
 
     private int below(int bound) {
@@ -58,86 +72,92 @@ public final class ModelTest {
         return style == 0 ? number(0, 10000000) : number(0, 20000);
     }
 
+    private int anyOwner() {
+        return number(0, Math.max(0, (int) model.count(1) - 1));
+    }
+
     private int anyLot() {
-        return number(0, Math.max(0, store.count(2) - 1));
+        return number(0, Math.max(0, (int) model.count(2) - 1));
     }
 
     private int anyExport() {
-        return number(0, Math.max(0, store.count(3) - 1));
+        return number(0, Math.max(0, (int) model.count(3) - 1));
     }
 
-    private int anyOwner() {
-        return number(0, Math.max(0, store.count(1) - 1));
-    }
-
-    private void call(String at) {
-        int dice = below(100);
+    private void call() {
+        int dice = below(150);
         if (dice < 4) {
-            Due.is(at + "addOwner", store.addOwner(), model.addOwner());
+            same("addOwner", s -> s.addOwner(), () -> model.addOwner());
         } else if (dice < 60) {
-            callOnLots(at, dice);
+            callOnLots(dice);
         } else if (dice < 75) {
-            callOnSettings(at, dice);
-        } else if (dice < 90) {
-            callOnText(at, dice);
+            callOnSettings(dice);
+        } else if (dice < 78) {
+            callOnText();
+        } else if (dice < 88) {
+            callOnHistory(dice);
+        } else if (dice < 100) {
+            askAboutLot();
+        } else if (dice < 115) {
+            askOfNumbers();
         } else {
-            callOnHistory(at, dice);
+            ask(dice);
         }
     }
 
-    private void callOnLots(String at, int dice) {
+    private void callOnLots(int dice) {
         if (dice < 20) {
             int owner = anyOwner();
             int kind = number(0, 5);
             int quantity = style == 0 ? number(1, 1000000) : number(1, 60);
             int value = value();
-            int got = store.enter(owner, kind, quantity, value);
-            Due.is(at + "enter", got, model.order("enter", owner, kind, quantity, value));
+            same("enter", s -> s.enter(owner, kind, quantity, value),
+                    () -> model.order("enter", owner, kind, quantity, value));
             return;
         }
         int lot = anyLot();
         int quantity = quantity();
         if (dice < 26) {
-            Due.is(at + "release", store.release(lot, quantity), model.order("release", lot, quantity));
+            same("release", s -> s.release(lot, quantity), () -> model.order("release", lot, quantity));
         } else if (dice < 32) {
-            Due.is(at + "sample", store.sample(lot, quantity), model.order("sample", lot, quantity));
+            same("sample", s -> s.sample(lot, quantity), () -> model.order("sample", lot, quantity));
         } else if (dice < 38) {
-            Due.is(at + "export", store.export(lot, quantity), model.order("export", lot, quantity));
+            same("export", s -> s.export(lot, quantity), () -> model.order("export", lot, quantity));
         } else if (dice < 42) {
             int export = anyExport();
-            Due.is(at + "prove", store.prove(export), model.order("prove", export));
+            same("prove", s -> s.prove(export), () -> model.order("prove", export));
         } else if (dice < 47) {
-            Due.is(at + "destroy", store.destroy(lot, quantity), model.order("destroy", lot, quantity));
+            same("destroy", s -> s.destroy(lot, quantity), () -> model.order("destroy", lot, quantity));
         } else if (dice < 52) {
             int owner = anyOwner();
-            Due.is(at + "give", store.give(lot, owner), model.order("give", lot, owner));
+            same("give", s -> s.give(lot, owner), () -> model.order("give", lot, owner));
         } else {
             int days = style == 3 ? number(1, 100) : number(1, 12);
-            Due.is(at + "pass", store.pass(days), model.order("days", days));
+            same("pass", s -> s.pass(days), () -> model.order("days", days));
         }
     }
 
-    private void callOnSettings(String at, int dice) {
+    private void callOnSettings(int dice) {
         int owner = anyOwner();
         if (dice < 64) {
             int amount = style == 0 ? number(1, 10000000) : number(1, 3000);
-            Due.is(at + "deposit", store.deposit(owner, amount), model.deposit(owner, amount));
+            same("deposit", s -> s.deposit(owner, amount), () -> model.deposit(owner, amount));
         } else if (dice < 69) {
             int amount = style == 0 ? number(0, 100000000) : number(0, style == 1 ? 400 : 4000);
-            Due.is(at + "setGuarantee", store.setGuarantee(owner, amount), model.setGuarantee(owner, amount));
+            same("setGuarantee", s -> s.setGuarantee(owner, amount), () -> model.setGuarantee(owner, amount));
         } else if (dice < 71) {
             int kind = number(0, 5);
             int rate = number(0, 1000);
-            Due.is(at + "setRate", store.setRate(kind, rate), model.setRate(kind, rate));
+            same("setRate", s -> s.setRate(kind, rate), () -> model.setRate(kind, rate));
         } else if (dice < 73) {
             int term = style == 0 ? number(1, 1000) : number(1, 60);
             int proof = style == 0 ? number(1, 200) : number(1, 30);
-            Due.is(at + "setTerms", store.setTerms(term, proof), model.setTerms(term, proof));
+            same("setTerms", s -> s.setTerms(term, proof), () -> model.setTerms(term, proof));
         } else {
             int cover = number(0, 100);
             int allowance = number(0, 1000);
             int fee = number(0, style == 0 ? 1000 : 20);
-            Due.is(at + "setRules", store.setRules(cover, allowance, fee), model.setRules(cover, allowance, fee));
+            same("setRules", s -> s.setRules(cover, allowance, fee), () -> model.setRules(cover, allowance, fee));
         }
     }
 
@@ -171,13 +191,16 @@ public final class ModelTest {
         return order.toString();
     }
 
-    private void callOnText(String at, int dice) {
-        if (dice < 77) {
-            char sign = (char) below(65536);
-            Due.is(at + "type", store.type(sign), model.type(sign));
+    private void type(char sign) {
+        same("type", s -> s.type(sign), () -> model.type(sign));
+    }
+
+    private void callOnText() {
+        if (below(5) == 0) {
+            type((char) below(65536));
             return;
         }
-        Due.is(at + "clearText", store.clearText(), model.clearText());
+        same("clearText", s -> s.clearText(), () -> model.clearText());
         StringBuilder text = new StringBuilder(order());
         for (int more = below(7); more > 0; more--) {
             text.append(';').append(order());
@@ -186,56 +209,67 @@ public final class ModelTest {
             text.append(SIGNS.charAt(below(SIGNS.length())));
         }
         for (int i = 0; i < text.length() && (i < 80 || below(3) == 0); i++) {
-            Due.is(at + "type", store.type(text.charAt(i)), model.type(text.charAt(i)));
+            type(text.charAt(i));
         }
         for (int i = below(3); i >= 0; i--) {
-            Due.is(at + "runOrders of " + text, store.runOrders(), model.runOrders());
+            same("runOrders of " + text, s -> s.runOrders(), () -> model.runOrders());
         }
     }
 
-    private void callOnHistory(String at, int dice) {
+    private void callOnHistory(int dice) {
         int slot = number(0, 1);
-        if (dice < 96) {
-            Due.is(at + "undo", store.undo(), model.undo());
-        } else if (dice < 98) {
-            Due.is(at + "keep", store.keep(slot), model.keep(slot));
+        if (dice < 84) {
+            same("undo", s -> s.undo(), () -> model.undo());
+        } else if (dice < 86) {
+            same("keep", s -> s.keep(slot), () -> model.keep(slot));
         } else {
-            Due.is(at + "restore", store.restore(slot), model.restore(slot));
+            same("restore", s -> s.restore(slot), () -> model.restore(slot));
         }
     }
 
-    private void compareAll(String at) {
-        int[] strange = {-1, Integer.MIN_VALUE, Integer.MAX_VALUE};
-        for (int what = -1; what <= 13; what++) {
-            Due.is(at + "count " + what, store.count(what), model.count(what));
-            Due.is(at + "account " + what, store.account(what), model.account(what));
-            Due.is(at + "rate " + what, store.rate(what), model.rate(what));
-            for (int owner = -1; owner <= 5 && what < 8; owner++) {
-                Due.is(at + "owner " + owner + " " + what, store.owner(owner, what), model.owner(owner, what));
-            }
-            for (int export = -1; export <= store.count(3) && what < 6; export++) {
-                int got = store.exported(export, what);
-                Due.is(at + "exported " + export + " " + what, got, model.exported(export, what));
-            }
+    private void askAboutLot() {
+        int lot = anyLot();
+        int what = number(0, 12);
+        int index = number(0, 14);
+        int dice = below(4);
+        if (dice == 0) {
+            same("documentLength", s -> s.documentLength(lot), () -> model.documentLength(lot));
+        } else if (dice == 1) {
+            same("documentAt", s -> s.documentAt(lot, index), () -> model.documentAt(lot, index));
+        } else {
+            same("lot " + what, s -> s.lot(lot, what), () -> model.lot(lot, what));
         }
-        int lot = below(store.count(2) + 1) - (below(20) == 0 ? 1 : 0);
-        for (int what = -1; what <= 13; what++) {
-            Due.is(at + "lot " + lot + " " + what, store.lot(lot, what), model.lot(lot, what));
+    }
+
+    private void askOfNumbers() {
+        int number = number(0, 12);
+        int dice = below(3);
+        if (dice == 0) {
+            same("count " + number, s -> s.count(number), () -> model.count(number));
+        } else if (dice == 1) {
+            same("account " + number / 2, s -> s.account(number / 2), () -> model.account(number / 2));
+        } else {
+            same("rate " + number / 2, s -> s.rate(number / 2), () -> model.rate(number / 2));
         }
-        Due.is(at + "documentLength " + lot, store.documentLength(lot), model.documentLength(lot));
-        for (int index = -1; index < 23; index++) {
-            Due.is(at + "documentAt " + lot + " " + index, store.documentAt(lot, index), model.documentAt(lot, index));
-        }
-        for (int odd : strange) {
-            Due.is(at + "documentAt " + odd, store.documentAt(lot, odd), model.documentAt(lot, odd));
-        }
-        Due.is(at + "nextDeadline", store.nextDeadline(), model.nextDeadline());
-        int days = number(1, 100);
-        Due.is(at + "calledIn " + days, store.calledIn(days), model.calledIn(days));
-        for (int owner = -1; owner <= store.count(1); owner++) {
+    }
+
+    private void ask(int dice) {
+        int owner = anyOwner();
+        if (dice < 125) {
+            int what = number(0, 6);
+            same("owner " + what, s -> s.owner(owner, what), () -> model.owner(owner, what));
+        } else if (dice < 135) {
+            int export = anyExport();
+            int what = number(0, 4);
+            same("exported " + what, s -> s.exported(export, what), () -> model.exported(export, what));
+        } else if (dice < 138) {
+            same("nextDeadline", s -> s.nextDeadline(), () -> model.nextDeadline());
+        } else if (dice < 144) {
+            int days = number(1, 100);
+            same("calledIn", s -> s.calledIn(days), () -> model.calledIn(days));
+        } else {
             int kind = number(0, 5);
-            int got = store.greatestValue(owner, kind);
-            Due.is(at + "greatestValue " + owner + " " + kind, got, model.greatestValue(owner, kind));
+            same("greatestValue", s -> s.greatestValue(owner, kind), () -> model.greatestValue(owner, kind));
         }
     }
 }
